@@ -151,6 +151,11 @@ public final class QuestionsTest {
         due.is("30 by 3, then", x.defence(0, 1, 3), 9);
         x = due.told(TWO + "door o counts near 0;learn 9;");
         due.is("beyond 99", x.defence(0, 0, 4), -1);
+        x.knock(0, 0, NO_SLIPS);
+        x.knock(0, 0, NO_SLIPS);
+        x.knock(0, 1, NO_SLIPS);
+        due.is("far", x.far(0, 0), 99);
+        due.is("no near keeps 99 out", x.defence(0, 0, 1), -1);
     }
 
     private static void chance(Due due) {
@@ -185,6 +190,13 @@ public final class QuestionsTest {
         x.knock(0, 1, NO_SLIPS);
         due.is("startled", ratio(x, 0, 0), 1);
         due.is("a child", ratio(x, 0, 2), 1_000_001);
+        x = due.told("hand a owner marks 5 5 5 5 slip 0 trust 1;door o counts near 0;learn 9;");
+        due.is("near 0 of counts", ratio(x, 0, 0), 1_000_001);
+        for (int i = 0; i < 3; i++) {
+            x.knock(0, 0, NO_SLIPS);
+        }
+        x.near(0, 99);
+        due.is("far beyond 99", ratio(x, 0, 0), 1_000_001);
     }
 
     /** Above a million times, and below. */
@@ -292,6 +304,8 @@ public final class QuestionsTest {
         due.history(x, "try a m shut;night;try b n shut;");
         due.is("m stays as told, and gossips", triple(x, 1, 0), 30_00_29);
         due.is("counts of 6 open by gossip", triple(x, 1, 2), 93_07_99);
+        due.history(x, "try a m shut;");
+        due.is("a bank's kind is not asked for", x.fits(0, 5, 0), -1);
         due.history(x, "try c m shut;");
         due.is("no kind keeps a child out", x.fits(0, 2, 0), -1);
         due.history(x, "try a m shut;try a m shut;try a m opened;");
@@ -417,6 +431,19 @@ public final class QuestionsTest {
         x = due.told("hand c child marks 0 0 0 0 slip 0 trust 1;door m mean near 33;");
         due.is("no burglar", x.rests(0, -1), 0);
         due.is("no pair", x.rests(0, 0), -1);
+        restsByPay(due);
+    }
+
+    private static void restsByPay(Due due) {
+        KnowLocks x = due.told("hand a owner marks 5 5 5 5 slip 0 trust 1;hand b owner marks 7 7 7 7 slip 0 trust 2;"
+            + "door o counts near 0;learn 9*(times=0)+9*(times=95 and trust=1);");
+        x.knock(0, 1, NO_SLIPS);
+        due.is("100 less 10 is not as much as 96 less 5", x.rests(0, -1), 6);
+        due.is("the owner who is let in by less", x.rests(0, 0), 140);
+        x = due.told("hand a maid marks 5 5 5 7 slip 0 trust 1;hand d dog marks 5 5 7 5 slip 2 trust 1;"
+            + "door m mean near 0;learn (times=0)+(times=5);");
+        x.knock(0, 1, NO_SLIPS - 2 * 49);
+        due.is("6 less 5 is as much as 1", x.rests(0, -1), 18);
     }
 
     private static void years(Due due) {

@@ -91,9 +91,10 @@ public final class TextsTest {
             "hand a owner marks 1 2 3 4 slip 1 trust 1 @hand", "hand a owner marks @-1",
             ANN + "hand b twin @;", ANN + "hand b twin @hand", ANN + "hand b twin ann @marks 1",
             "door @", "door @mean", "door d @owner", "door d @twin", "door d mean @5", "door d mean near @;",
-            "door d mean near @-1;", "door d mean near 5 @6", "street @", "street @1", "street @door",
+            "door d mean near @-1;", "door d mean near 5 @6", "door d mean near 5 @door e", "street @", "street @1", "street @door",
             "door d mean near 5;street d @", "door d mean near 5;street d @;", "door d mean near 5;street d @near",
-            "door d mean near 5;door e mean near 5;street d e @e", "gossip @;", "gossip 1 @1", "gossip @x",
+            "door d mean near 5;door e mean near 5;street d e @e",
+            "door d mean near 5;door e mean near 5;street d e @gossip", "gossip @;", "gossip 1 @1", "gossip @x",
             "guard @;", "guard 1 @2", "guard 1 to @;", "guard 1 to 2 @to", "guard 1 @", "gossip 1;@;", "@try a b opened;"};
         for (String text : texts) {
             due.faultOfQuarter(x, 1, text);
@@ -140,7 +141,7 @@ public final class TextsTest {
     private static void faultsOfFormulas(Due due) {
         KnowLocks x = new KnowLocks();
         String[] texts = {"learn @;", "feel @)", "learn @", "learn 1@", "learn 1 @1;", "learn (1@;", "learn 1 < 2 @< 3;",
-            "learn 1 = 2 @< 3;", "learn 1 + @;", "learn 1 * @* 1;", "learn not @;", "learn 1 and @;", "learn 1 and @or 1;",
+            "learn 1 = 2 @< 3;", "learn 1 + @;", "learn 1 < @;", "feel 1 = @)", "learn 1 * @* 1;", "learn not @;", "learn 1 and @;", "learn 1 and @or 1;",
             "learn @mark;", "learn @which;", "feel @opened;", "feel @trust;", "feel @times;", "feel @far;", "learn @-1;",
             "learn 1 @);", "learn @x;", "learn @and 1;", "learn 1 @not 1;", "learn (@);",
             "learn (((((@;", "learn (((((@mark;", "learn not not not not not @+", "learn @10000;", "learn hour @day;"};
