@@ -473,12 +473,11 @@ public final class QuestionsTest {
     private static void drawnYear(Due due) {
         KnowLocks x = due.told("hand a owner marks 5 5 5 5 slip 1 trust 1;hand b dog marks 4 4 4 4 slip 3 trust 1;"
             + "door m mean near 30;door n nearest near 40;door o counts near 3;");
-        KnowLocks y = due.told("hand a owner marks 5 5 5 5 slip 1 trust 1;hand b dog marks 4 4 4 4 slip 3 trust 1;"
-            + "door m mean near 30;door n nearest near 40;door o counts near 3;");
         for (int seed = 0; seed < 20; seed++) {
+            KnowLocks y = due.told("hand a owner marks 5 5 5 5 slip 1 trust 1;hand b dog marks 4 4 4 4 slip 3 trust 1;"
+                + "door m mean near 30;door n nearest near 40;door o counts near 3;");
             long[] g = {seed};
             int[] sums = new int[3];
-            y.mark(0, false);
             y.hours(24);
             for (int i = 0; i < 8; i++) {
                 int hand = draw(g, 2);
@@ -497,7 +496,6 @@ public final class QuestionsTest {
             for (int what = 0; what < 3; what++) {
                 due.is("seed " + seed + ", " + what, year(x, seed, 2, what), sums[what]);
             }
-            y.mark(0, true);
         }
     }
 
