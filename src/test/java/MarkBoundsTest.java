@@ -10,6 +10,7 @@ public final class MarkBoundsTest {
         whatAMarkHolds(due);
         rowsAndCountsOfAMark(due);
         startledInAMark(due);
+        triesOfAMark(due);
         quartersOfMarks(due);
         marksAndUndo(due);
         marksAndTape(due);
@@ -167,6 +168,32 @@ public final class MarkBoundsTest {
         due.is("two times shut", x.door(0, 5), 2);
         x.knock(0, 1, NO_SLIPS);
         due.is("by the third", x.opens(0, 0, NO_SLIPS), 0);
+    }
+
+    /** Tries since midnight and tries in all, told apart on a mark and by undo. */
+    private static void triesOfAMark(Due due) {
+        KnowLocks x = due.told("hand a owner marks 5 5 5 5 slip 0 trust 1;hand c child marks 5 5 5 5 slip 0 trust 1;door m mean near 0;learn 0;");
+        x.knock(0, 1, NO_SLIPS);
+        x.knock(0, 1, NO_SLIPS);
+        x.knock(0, 0, NO_SLIPS);
+        x.hours(24);
+        x.knock(0, 0, NO_SLIPS);
+        x.knock(0, 1, NO_SLIPS);
+        x.knock(0, 0, NO_SLIPS);
+        int[] door = {0, 0, 3, 6, 3, 1};
+        x.mark(0, false);
+        x.near(0, 7);
+        x.knock(0, 0, NO_SLIPS);
+        x.undo();
+        x.undo();
+        for (int what = 0; what < 6; what++) {
+            due.is("undone, door(0, " + what + ")", x.door(0, what), door[what]);
+        }
+        x.hours(48);
+        x.mark(0, true);
+        for (int what = 0; what < 6; what++) {
+            due.is("gone back to, door(0, " + what + ")", x.door(0, what), door[what]);
+        }
     }
 
     /** Promises 3 and 29: marks stay when a quarter is told. */

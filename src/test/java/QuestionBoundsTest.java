@@ -33,6 +33,7 @@ public final class QuestionBoundsTest {
         restsByPatience(due);
         yearsWithin(due);
         yearsByDays(due);
+        theLastOfAll(due);
         due.end();
     }
 
@@ -290,14 +291,59 @@ public final class QuestionBoundsTest {
         is(due, x, 0, 0, 1, 27);
         due.is("chance(.., 2)", x.chance(0, 0, 2), -1);
         due.is("chance(.., -1)", x.chance(0, 0, -1), -1);
-        x = due.told("hand a owner marks 5 5 5 5 slip 1 trust 1;hand z dog marks 0 0 0 0 slip 0 trust 1;door v nervous near 99;learn 1;");
+        x = due.told("hand a owner marks 5 5 5 5 slip 1 trust 1;hand z dog marks 0 0 0 0 slip 0 trust 1;" + CHILD + "door v nervous near 99;learn trust;");
         x.knock(0, 0, NO_SLIPS);
+        x.knock(0, 1, NO_SLIPS);
         is(due, x, 0, 0, 1, 1);
-        for (int i = 0; i < 2; i++) {
-            x.knock(0, 1, NO_SLIPS);
-        }
-        x.near(0, 0);
+        due.is("best, not startled", x.best(0, 0, 1, 0), 40);
+        x.knock(0, 1, NO_SLIPS);
         is(due, x, 0, 0, 0, 1);
+        is(due, x, 0, 2, 1, 1);
+        due.is("best, startled", x.best(0, 0, 1, 0), 0);
+        due.is("shut to both", x.best(0, 0, 1, 1) * 10 + x.best(0, 0, 1, 2), 11);
+        due.is("shut to the one, open to a child", x.best(0, 0, 2, 1) * 10 + x.best(0, 0, 2, 2), 21);
+        x.hours(24);
+        is(due, x, 0, 0, 1, 1);
+    }
+
+    /** Each question asked of the last door and the last hands, where the first would answer otherwise. */
+    private static void theLastOfAll(Due due) {
+        KnowLocks x = due.told("hand z dog marks 9 9 9 9 slip 0 trust 9;hand y dog marks 0 0 0 0 slip 0 trust 9;hand a owner marks 5 5 5 5 slip 1 trust 1;"
+            + "hand b maid marks 5 5 5 7 slip 1 trust 1;door k bank near 0;door o counts near 0;door p mean near 30;door q mean near 9;street p q;gossip 1;learn trust;");
+        x.knock(3, 2, NO_SLIPS);
+        due.is("patience", x.patience(3, 2), 1);
+        due.is("patience of the other: 20 by 1, 6 by 3", x.patience(3, 3), 2);
+        due.is("unseen of the other", x.unseen(3, 3), 1);
+        due.is("breaks", x.breaks(3, 3, -1), 2);
+        due.is("without a slip", x.breaks(3, 3, 0), 0);
+        due.is("breaks of the mean one", x.breaks(2, 3, -1), 2);
+        due.is("defence", x.defence(3, 3, 1), 19);
+        is(due, x, 3, 2, 1, 81);
+        is(due, x, 3, 3, 0, 1);
+        due.is("best", x.best(3, 2, 1, 0), 40);
+        due.is("street of who comes no nearer than 10", x.street(3, 2, 3), -1);
+        due.is("street to the mean one", x.street(2, 3, 2), 1);
+        due.is("a hand that is not learnt", x.street(0, 3, 2), -1);
+        due.is("taken", x.taken(2, 3), 2);
+        due.is("apart", x.apart(3, 2, 3), 8);
+        due.is("apart at the counts", x.apart(1, 2, 3), -1);
+        due.is("trained", x.trained(3, 3, 1, -1) * 10 + x.trained(3, 3, 1, 0), 13);
+        due.is("rests: the maid is shut out by 10, so by 20 and more", x.rests(3, -1), 8 + 8);
+        due.is("the first of them", x.rests(3, 0), 220);
+        due.is("rests of the mean one: all but the dogs", x.rests(2, -1), 18);
+        due.is("its first", x.rests(2, 0), 210);
+        x = due.told("hand a owner marks 5 5 5 5 slip 0 trust 1;hand b maid marks 5 5 5 5 slip 0 trust 1;door m mean near 0;door o counts near 0;learn 9;");
+        due.is("both pay by each near, the owner teaches none to let the maid in", x.rests(1, -1), 4);
+        due.is("of 80 and 90", x.rests(1, 0) * 1000 + x.rests(1, 3), 80190);
+        x = due.told("hand z dog marks 5 5 5 5 slip 0 trust 9;hand a owner marks 5 5 5 5 slip 0 trust 1;door k bank near 0;door p mean near 0;door q mean near 0;"
+            + "street p q;gossip 1;learn trust;");
+        due.is("street of the hand that is learnt", x.street(1, 1, 2), 1);
+        due.is("back", x.street(1, 2, 1), 1);
+        due.is("street of the hand that is not", x.street(0, 1, 2), -1);
+        x = due.told("hand z dog marks 9 9 9 9 slip 3 trust 9;hand a owner marks 5 5 5 5 slip 1 trust 1;door k bank near 0;door m mean near 0;learn trust;");
+        x.knock(1, 1, NO_SLIPS + 7);
+        due.is("breaks by the hand that slips", x.breaks(1, 1, -1), 2);
+        due.is("its second mark less", x.breaks(1, 1, 0), 3);
     }
 
     private static void is(Due due, KnowLocks x, int door, int hand, int above, int below) {

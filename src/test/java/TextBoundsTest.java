@@ -346,6 +346,12 @@ public final class TextBoundsTest {
             due.faultOfQuarter(new KnowLocks(), 3, law + "@" + law);
             due.faultOfQuarter(new KnowLocks(), 3, law + ANN + DOORS + "@" + law);
             due.faultOfQuarter(new KnowLocks(), 3, law + "@" + law.substring(0, law.indexOf(' ')));
+            for (String other : laws) {
+                if (!other.equals(law)) {
+                    due.faultOfQuarter(new KnowLocks(), 3, law + other + "@" + law);
+                    due.faultOfQuarter(new KnowLocks(), 3, other + law + "@" + other);
+                }
+            }
             KnowLocks x = due.told(law);
             due.quarter(x, law);
         }
