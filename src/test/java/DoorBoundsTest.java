@@ -36,6 +36,7 @@ public final class DoorBoundsTest {
         gossipOfCounts(due);
         gossipOfSums(due);
         gossipAhead(due);
+        gossipFromEachPlace(due);
         due.end();
     }
 
@@ -875,5 +876,28 @@ public final class DoorBoundsTest {
         x.hours(72);
         due.is("a bank tells nothing on", x.knows(2, 4), 0);
         due.is("nor back", x.knows(0, 4), 1);
+    }
+
+    /** Each of five doors, of each kind that tells, is heard by all others; who is told nothing has nothing to tell. */
+    private static void gossipFromEachPlace(Due due) {
+        String streets = "street p q;street p r;street p s;street p t;street q r;street q s;street q t;street r s;street r t;street s t;";
+        String[] kinds = {"mean", "nearest", "counts", "cheap", "nervous"};
+        for (String kind : kinds) {
+            for (int place = 0; place < 5; place++) {
+                StringBuilder text = new StringBuilder("hand a owner marks 6 7 8 9 slip 0 trust 1;");
+                for (int d = 0; d < 5; d++) {
+                    text.append("door ").append((char) ('p' + d)).append(' ').append(d == place ? kind : "nearest").append(" near 0;");
+                }
+                KnowLocks x = due.told(text + streets + "gossip 1;learn 4;");
+                x.knock(place, 0, NO_SLIPS);
+                x.hours(24);
+                for (int d = 0; d < 5; d++) {
+                    for (int i = 0; i < 4 && d != place; i++) {
+                        due.is("mark " + i + " told by " + kind + " " + place + " to " + d, x.knows(d, i), 6 + i);
+                    }
+                    due.is("one row, " + kind + " " + place + " and " + d, d == place || x.knows(d, 4) == -1, true);
+                }
+            }
+        }
     }
 }
