@@ -8,7 +8,7 @@ import java.util.function.IntPredicate;
 
 /**
  * A second reading of the document, sentence by sentence, with the Java library and without a thought for speed: each
- * question is asked of a copy of all that is. It shares nothing with the class, so that a slip in one of both shows.
+ * question is asked of a copy of all that is. It shares no code with the class, so that a slip in one of both shows.
  */
 final class Model {
     private static final int NONE = -1;
